@@ -1221,25 +1221,26 @@ public final class ButtonRegistry {
             for (int cell = 0; cell < table.length; cell++) {
                 table[cell] = NONE;
             }
-            return endsDistance(firstLength, secondLength);
+            return endsDistance(this, firstLength, secondLength);
         }
 
         // The table only spares the recursion from going through the same two beginnings again. Both lengths are at
         // most 8 and one gets smaller at each level, so that there are at most 16 levels.
-        private int endsDistance(int i, int j) {
+        private static int endsDistance(Ruler ruler, int i, int j) {
             if (i <= 0 || j <= 0 || i >= WIDTH || j >= WIDTH) {
                 return i + j;
             }
-            int known = cellAt(i, j);
+            int known = ruler.cellAt(i, j);
             if (known != NONE) {
                 return known;
             }
-            int distance = Math.min(endsDistance(i - 1, j), endsDistance(i, j - 1)) + 1;
-            distance = Math.min(distance, endsDistance(i - 1, j - 1) + (sameLetter(i, j) ? 0 : 1));
-            if (i >= 2 && j >= 2 && sameLetter(i, j - 1) && sameLetter(i - 1, j)) {
-                distance = Math.min(distance, endsDistance(i - 2, j - 2) + 1);
+            int distance = Math.min(endsDistance(ruler, i - 1, j), endsDistance(ruler, i, j - 1)) + 1;
+            int change = ruler.sameLetter(i, j) ? 0 : 1;
+            distance = Math.min(distance, endsDistance(ruler, i - 1, j - 1) + change);
+            if (i >= 2 && j >= 2 && ruler.sameLetter(i, j - 1) && ruler.sameLetter(i - 1, j)) {
+                distance = Math.min(distance, endsDistance(ruler, i - 2, j - 2) + 1);
             }
-            putCell(i, j, distance);
+            ruler.putCell(i, j, distance);
             return distance;
         }
 
@@ -1379,29 +1380,29 @@ public final class ButtonRegistry {
 
         int byTrial(State state) {
             collectAccounts(state);
-            return tryTransfers(0, 0, count);
+            return tryTransfers(accounts, count, 0, 0, count);
         }
 
         // One account after the other passes all that it has to one of the opposite sign. Each level goes on to a
         // later account, of which there are at most 9.
-        private int tryTransfers(int from, int made, int fewest) {
+        private static int tryTransfers(int[] coins, int count, int from, int made, int fewest) {
             int giver = from;
-            while (giver < count && giver < accounts.length && accounts[giver] == 0) {
+            while (giver < count && giver >= 0 && giver < coins.length && coins[giver] == 0) {
                 giver++;
             }
-            if (giver < 0 || giver >= count || giver >= accounts.length) {
+            if (giver < 0 || giver >= count || giver >= coins.length) {
                 return Math.min(made, fewest);
             }
             if (made + 1 >= fewest) {
                 return fewest;
             }
-            int coins = accounts[giver];
+            int given = coins[giver];
             int best = fewest;
-            for (int taker = giver + 1; taker < count && taker < accounts.length; taker++) {
-                if (coins > 0 && accounts[taker] < 0 || coins < 0 && accounts[taker] > 0) {
-                    accounts[taker] += coins;
-                    best = tryTransfers(giver + 1, made + 1, best);
-                    accounts[taker] -= coins;
+            for (int taker = giver + 1; taker < count && taker < coins.length; taker++) {
+                if (given > 0 && coins[taker] < 0 || given < 0 && coins[taker] > 0) {
+                    coins[taker] += given;
+                    best = tryTransfers(coins, count, giver + 1, made + 1, best);
+                    coins[taker] -= given;
                 }
             }
             return best;

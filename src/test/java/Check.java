@@ -17,15 +17,22 @@ final class Check {
         }
     }
 
-    /** The very class counts, because the machine throws classes below the ones that the document names. */
+    /** The very class counts, and the class itself must throw it, not the machine or the library. */
     static void fails(String what, Class<? extends RuntimeException> due, Call call) {
         Object got;
         try {
             got = call.run();
         } catch (RuntimeException fault) {
-            got = fault.getClass();
+            got = thrown(fault);
         }
         same(what, due, got);
+    }
+
+    /** The class of the exception, or a text if the registry does not throw it itself. */
+    static Object thrown(Throwable fault) {
+        StackTraceElement[] calls = fault.getStackTrace();
+        boolean own = calls.length > 0 && calls[0].getClassName().matches("ButtonRegistry(\\$.*)?");
+        return own ? fault.getClass() : fault + " of the machine";
     }
 
     /** Like fails, and nothing that can be seen of the registry may change. */

@@ -7,6 +7,7 @@ public final class HearingsTest {
 
     public static void main(String[] args) {
         distances();
+        distancesOneAfterTheOther();
         nearestPrecedent();
         hear();
         hearPercentages();
@@ -61,6 +62,23 @@ public final class HearingsTest {
             Make.file(registry, words[i + 1], 0, 1, 1, 1, 1);
             Check.same("distance of " + one + " and " + other, due, registry.distance(0, 1));
             Check.same("distanceByEnds of " + one + " and " + other, due, registry.distanceByEnds(0, 1));
+        }
+    }
+
+    /** Promises 41 and 42: no answer depends on the one before. */
+    private static void distancesOneAfterTheOther() {
+        String[] words = {"abcdefgh", "a", "badcfehg", "ab", "hgfedcba", "zzzz", "abcdefgh", "bac"};
+        int[] due = {0, 7, 4, 6, 7, 8, 0, 6};
+        ButtonRegistry registry = Make.withButtons(2);
+        Make.file(registry, "abcdefgh", 0, 1, 1, 1, 1);
+        for (String word : words) {
+            Make.precedent(registry, word, 0);
+        }
+        for (int i = 0; i < words.length; i++) {
+            Check.same("distanceByEnds to " + words[i], due[i], registry.distanceByEnds(0, i));
+        }
+        for (int i = 0; i < words.length; i++) {
+            Check.same("distance to " + words[i], due[i], registry.distance(0, i));
         }
     }
 

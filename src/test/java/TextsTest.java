@@ -47,6 +47,9 @@ public final class TextsTest {
     private static void renderBonds() {
         ButtonRegistry registry = Make.withButtons(4);
         output(registry, registry.renderBonds(3), "3(0)");
+        registry.setBond(0, 3, 1);
+        output(registry, registry.renderBonds(3), "3(0)-0/1");
+        registry.cutBond(0, 3);
         registry.setBond(3, 1, 12);
         registry.setBond(1, 0, 4);
         output(registry, registry.renderBonds(1), "1(0)-0/4-3/12");

@@ -7,6 +7,7 @@ public final class WaysTest {
         docket();
         docketOfTwelve();
         docketOnlyOfFiled();
+        eachWayAlone();
         transfers();
         transfersInParts();
         transfersOfNine();
@@ -67,6 +68,28 @@ public final class WaysTest {
         sameDocket(registry, 20);
         registry.withdraw(1);
         sameDocket(registry, 0);
+    }
+
+    /** Promises 43 to 46: no way takes over what the other one has found before. */
+    private static void eachWayAlone() {
+        ButtonRegistry registry = Make.withButtons(2);
+        Check.same("bestDocketBySets", 0, registry.bestDocketBySets());
+        Check.same("fewestTransfersByTrial", 0, registry.fewestTransfersByTrial());
+        Make.file(registry, "a", 0, 1, 7, 1, 1);
+        Check.same("bestDocketBySets", 7, registry.bestDocketBySets());
+        registry.passDays(1);
+        registry.hear(0);
+        Check.same("fewestTransfersByTrial", 1, registry.fewestTransfersByTrial());
+        Check.same("bestDocketBySets", 0, registry.bestDocketBySets());
+        registry.undo();
+        registry.undo();
+        Check.same("bestDocket", 7, registry.bestDocket());
+        Check.same("fewestTransfers", 0, registry.fewestTransfers());
+        registry.undo();
+        Check.same("bestDocket", 0, registry.bestDocket());
+        Make.file(registry, "a", 0, 1, 7, 1, 0);
+        registry.hear(0);
+        Check.same("fewestTransfers", 1, registry.fewestTransfers());
     }
 
     /** Promises 45 and 46. */
