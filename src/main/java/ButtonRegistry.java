@@ -413,9 +413,9 @@ public final class ButtonRegistry {
 
     private boolean strainsAgree() {
         for (int first = 0; first < now.buttons; first++) {
-            for (int second = 0; second < now.buttons; second++) {
-                int strain = court.threads.strainByJoining(now, first, second);
-                if (first != second && strain != court.threads.strainFromTable(now, first, second)) {
+            for (int second = first + 1; second < now.buttons; second++) {
+                if (court.threads.strainByJoining(now, first, second)
+                        != court.threads.strainFromTable(now, first, second)) {
                     return false;
                 }
             }
