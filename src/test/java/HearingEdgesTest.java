@@ -35,6 +35,7 @@ public final class HearingEdgesTest {
         transfersOfTwo();
         transfersWithTheChest();
         transfersOfSingleCoins();
+        transferOfOneCoin();
         mostTransfers();
         transfersOfPairs();
         bothWaysAgree();
@@ -537,6 +538,20 @@ public final class HearingEdgesTest {
         win(other, 1, 3, 2);
         // Balances 91, 1, -1, -111 and 20 in the chest.
         transfers(other, 3);
+    }
+
+    /** A button that owes one coin to another one, beside a button that owes all that is in the chest. */
+    private static void transferOfOneCoin() {
+        for (int debtor = 1; debtor <= 2; debtor++) {
+            ButtonRegistry registry = starOf(3);
+            win(registry, 3 - debtor, 0, 5);
+            registry.hear(Make.file(registry, "a", debtor, 0, 1, 1, 0));
+            registry.give(3 - debtor, debtor, 4);
+            Check.same("it owes one coin", -1, registry.balance(debtor));
+            Check.same("the other one has one", 1, registry.balance(3 - debtor));
+            Check.same("the debt to the chest", -registry.chest(), registry.balance(0));
+            transfers(registry, 2);
+        }
     }
 
     /** 8 buttons and the chest, where no part adds up to 0, need 8 transfers. */
